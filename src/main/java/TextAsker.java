@@ -762,7 +762,7 @@ public final class TextAsker {
             if (left == 0) {
                 return true;
             }
-            if (picks <= 0) {
+            if (picks * widest(sets, size, left) < Integer.bitCount(left)) {
                 return false;
             }
             int hardest = rarest(sets, size, left);
@@ -772,6 +772,14 @@ public final class TextAsker {
                 }
             }
             return false;
+        }
+
+        private static int widest(int[] sets, int size, int left) {
+            int most = 0;
+            for (int i = 0; i < size; i++) {
+                most = Math.max(most, Integer.bitCount(sets[i] & left));
+            }
+            return most;
         }
 
         /** The bit that the fewest sets hold leaves the fewest ways to try. */

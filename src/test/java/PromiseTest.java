@@ -19,6 +19,7 @@ public final class PromiseTest {
         promise2Grammar();
         promise2Refusals();
         promise2Limits();
+        promise2JustTooMany();
         promise2Taking();
         promise2Dropping();
         promise2Giving();
@@ -164,6 +165,15 @@ public final class PromiseTest {
             yes("2: he takes " + thing, end(x, HE, TAKES, thing));
         }
         return x;
+    }
+
+    private static void promise2JustTooMany() {
+        TextAsker x = text(s(0, GIVES, 10, 2), s(HE, GOES, 20), s(HE, GIVES, 13, 1), s(HE, GOES, 21), s(HE, DROPS, 11),
+                s(HE, GIVES, 10, 1), s(HE, GOES, 20), s(HE, GOES, 21));
+        int before = x.count(2);
+        no("2: 65 may not", end(x, HE, TAKES, 11));
+        same("2: the eight stay", x.count(0), 8);
+        same("2: with their readings", x.count(2), before);
     }
 
     private static void promise2Limits() {
