@@ -12,14 +12,18 @@ import java.util.TreeSet;
  * from the document's words. The numbers come from a fixed row, so that every run is the same.
  */
 public final class ModelTest {
-    private static final int RUNS = 1200;
+    private static final int RUNS = 2000;
+    /** The document's limit for one object, and how many of them the last questions of a run take. */
     private static final int CALLS = 512;
+    private static final int LAST_QUESTIONS = 36 * 6 + 5 + 1;
+    private static final int LONGEST_SENTENCE = 5;
     private static final int[] OTHER_NUMBERS = {-3, -2, -1, 8, 9, 10, 28, 50, Integer.MAX_VALUE, Integer.MIN_VALUE};
 
     private static int failures = 0;
     private static long row = 20261116L;
 
     public static void main(String[] args) {
+        sixtyFiveReadings();
         int sentences = 0;
         int readings = 0;
         int refused = 0;
@@ -38,6 +42,22 @@ public final class ModelTest {
         if (failures != 0) {
             System.exit(1);
         }
+    }
+
+    /** Just one reading too many: the model counts them, the object must refuse the last sentence. */
+    private static void sixtyFiveReadings() {
+        int[] signs = {0, 33, 10, 2, 50, 40, 30, 20, 50, 40, 33, 13, 1, 50, 40, 30, 21, 50, 40, 32, 11, 50,
+            40, 33, 10, 1, 50, 40, 30, 20, 50, 40, 30, 21, 50, 40, 31, 11};
+        Run run = new Run(-1);
+        for (int sign : signs) {
+            run.same("sign(" + sign + ")", run.asker.sign(sign) ? 1 : 0, run.model.sign(sign) ? 1 : 0);
+        }
+        run.same("sentences", run.asker.count(0), 8);
+        run.same("sign(50)", run.asker.sign(50) ? 1 : 0, 0);
+        run.model.begun = new ArrayList<>();
+        run.askAll();
+        run.model.text.add(List.of(40, 31, 11, 50));
+        run.same("readings, if there could be so many", run.model.readingsOf(9).size(), 65);
     }
 
     private static int below(int bound) {
@@ -67,7 +87,7 @@ public final class ModelTest {
         }
 
         void go() {
-            while (calls.size() < CALLS && failures < 20) {
+            while (calls.size() <= CALLS - LAST_QUESTIONS - LONGEST_SENTENCE && failures < 20) {
                 int pick = below(100);
                 if (pick < 55) {
                     addSentence();
@@ -82,6 +102,10 @@ public final class ModelTest {
             }
             mostReadings = Math.max(mostReadings, model.readingsOf(model.text.size()).size());
             askAll();
+            if (calls.size() > CALLS) {
+                failures++;
+                System.out.println("run " + number + " has " + calls.size() + " calls");
+            }
         }
 
         void addSentence() {
@@ -133,7 +157,6 @@ public final class ModelTest {
             }
         }
 
-        /** Beyond the calls that one object must bear, but the answers stay the same. */
         void askAll() {
             int whole = model.text.size();
             for (int kind = 0; kind < 4; kind++) {
