@@ -936,7 +936,7 @@ public final class EdgeTest {
     private static void judgedByEarlierTexts() {
         List<Call> lay = text(s(0, DROPS, 10), s(1, TAKES, 10));
         due("10: it lay", lay, 2, Name.JUDGE, 2, 0, 9);
-        due("10: of the empty text", lay, 2, Name.JUDGE, 3, 1, 0);
+        due("10: of the empty text", text(s(0, TAKES, 10)), 2, Name.JUDGE, 3, 0, 0);
         due("10: the same again is the answer", text(s(0, GOES, 20), s(0, GOES, 21), s(0, GOES, 20)), 0,
                 Name.JUDGE, 0, 0, 20);
         List<Call> doubted = text(s(0, GIVES, 10, 2), s(HE, TAKES, 11), s(2, DROPS, 11));
@@ -968,6 +968,12 @@ public final class EdgeTest {
         due("11: not told", SMALL, 0, Name.ASKS, 0, 3);
         due("11: in doubt, though each reading has grounds", FULL, 0, Name.ASKS, 2, 1);
         due("11: in doubt", SMALL, 0, Name.ASKS, 0, 0);
+        List<Call> doubted = text(s(2, GOES, 20), s(4, GOES, 20), s(2, GIVES, 10, 4), s(HE, GOES, 21), s(HE, DROPS, 11),
+                s(0, TAKES, 11));
+        taken("11: where 0 takes 11", doubted);
+        due("11: where 0 takes 11", doubted, IN_DOUBT, Name.ANSWER, 0, 0, 6);
+        due("11: in doubt, though sentences 4 and 5 are grounds in all readings", doubted, 0, Name.ASKS, 0, 0);
+        due("11: the answer is person 0", doubted, bits(5), Name.ASKS, 2, 1);
         due("11: an answer of 0 things", SMALL, 0, Name.ASKS, 3, 0);
         due("11: the begun one is not asked for", BEGUN, bits(0), Name.ASKS, 2, 0);
         due("11: sentence 13", FULL, bits(13), Name.ASKS, 2, 4);
@@ -993,6 +999,23 @@ public final class EdgeTest {
         taken("12: fourteen, each alone", most);
         due("12: a question for each", most, 14, Name.FEWEST);
         sameState("12: to ask changes nothing", FULL, behind(FULL, call(Name.FEWEST), call(Name.FEWEST)));
+        fewestOfAnotherText();
+    }
+
+    /** What an earlier text was asked for must not help to ask for this one. */
+    private static void fewestOfAnotherText() {
+        List<Call> three = text(s(5, GOES, 20), s(5, DROPS, 10), s(2, TAKES, 10), s(0, GOES, 21), s(1, GOES, 22));
+        due("12: 0, 1, and where 2 is", three, 3, Name.FEWEST);
+        List<Call> nothing = behind(behind(three, call(Name.FEWEST)), backs(5));
+        sameState("12: nothing, behind another text", EMPTY, nothing);
+        List<Call> two = text(s(0, GOES, 20), s(1, GOES, 21));
+        sameState("12: two, behind another text", two, behind(nothing, two.toArray(new Call[0])));
+        due("12: two, behind another text", behind(nothing, two.toArray(new Call[0])), 2, Name.FEWEST);
+        List<Call> four = text(s(5, GOES, 20), s(5, GIVES, 10, 3), s(0, GOES, 21), s(1, GOES, 22), s(2, GOES, 23));
+        due("12: 0, 1, 2 and where 3 is", four, 4, Name.FEWEST);
+        List<Call> again = behind(behind(four, call(Name.FEWEST)), backs(5));
+        Call[] instead = joined(s(1, GOES, 21), s(2, GOES, 22), s(0, GOES, 20), s(0, TAKES, 10));
+        due("12: three, behind another text", behind(again, instead), 3, Name.FEWEST);
     }
 
     private static void promise13() {
@@ -1035,6 +1058,12 @@ public final class EdgeTest {
         List<Call> takenBack = behind(behind(one, sentence(4, GOES, 25)), backs(1));
         none("13: a person taken back", takenBack, Name.WRONG, 2, 0, 0);
         none("13: a place taken back", takenBack, Name.WRONG, 0, 0, 0);
+        List<Call> others = text(s(3, GOES, 25), s(3, GIVES, 11, 5), s(5, GOES, 22));
+        due("13: place 20 isn't named", others, 25, Name.WRONG, 0, 5, 0);
+        none("13: one other place", others, Name.WRONG, 0, 5, 1);
+        due("13: person 0 isn't named", behind(others, sentence(5, TAKES, 12)), 3, Name.WRONG, 2, 2, 0);
+        none("13: one other person", behind(others, sentence(5, TAKES, 12)), Name.WRONG, 2, 2, 1);
+        due("13: named in the first sentence alone", text(s(4, TAKES, 10), s(3, TAKES, 11)), 4, Name.WRONG, 2, 1, 0);
         List<Call> receiver = behind(one, sentence(3, GIVES, 11, 5));
         due("13: a giver", receiver, 3, Name.WRONG, 2, 0, 0);
         due("13: a receiver", receiver, 5, Name.WRONG, 2, 0, 1);
@@ -1054,6 +1083,9 @@ public final class EdgeTest {
             List<Call> row = behind(SMALL, signs(Arrays.copyOf(s(1, GIVES, 12, 3), length)));
             due("14: signs begun", row, length, Name.COUNT, 1);
         }
+        List<Call> first = text(s(0, GOES, 20));
+        due("14: where 0 is, and 8 numbers", first, 9, Name.COUNT, 3);
+        due("14: nothing in doubt", first, 0, Name.COUNT, 4);
         due("14: none begun behind an end", behind(SMALL, sentence(1, GIVES, 12, 3)), 0, Name.COUNT, 1);
         due("14: 14 sentences", FULL, 14, Name.COUNT, 0);
         for (List<Call> row : List.of(EMPTY, BEGUN, FULL)) {
