@@ -187,6 +187,9 @@ public final class EdgeTest {
     private static void due(String what, List<Call> row, int due, Name name, int... given) {
         Call one = call(name, given);
         same(what + ": " + one + " behind " + brief(row), one.on(replay(row)), due);
+        if (due == NONE) {
+            sameState(what, row, behind(row, one));
+        }
     }
 
     /** Every sign of the row is taken: else the test itself would be about another text than it says. */
@@ -466,7 +469,7 @@ public final class EdgeTest {
         due("2: the begun one went, so back takes the last", behind(refused, backs(1)), 3, Name.COUNT, 0);
         sameState("2: back behind a refused end", firstOf(new int[][] {s(0, GIVES, 10, 2), s(HE, GOES, 20),
             s(1, GOES, 21)}, 3), behind(refused, backs(1)));
-        due("2: a second end has nothing to end", refused, 0, Name.SIGN, END);
+        refusedSign("2: a second end has nothing to end", refused, END);
     }
 
     /** "or more than 64: the whole SENTENCE that was begun goes then". */
