@@ -636,11 +636,12 @@ public final class TextAsker {
         }
 
         private int thingPlaceBasis(int thing) {
-            if (thingPlace(thing) == NOT_TOLD) {
-                return 0;
-            }
             int holder = holders[thing];
-            return isPerson(holder) ? holderGrounds[thing] | placeGrounds[holder] : spotGrounds[thing];
+            if (holder == LIES) {
+                return spots[thing] == NOT_TOLD ? 0 : spotGrounds[thing];
+            }
+            boolean isTold = isPerson(holder) && places[holder] != NOT_TOLD;
+            return isTold ? holderGrounds[thing] | placeGrounds[holder] : 0;
         }
 
         private int hadThingsBasis(int person) {

@@ -21,6 +21,9 @@ public final class FaceTest {
         "\\bthrow\\b", "\\btry\\b", "\\bcatch\\b", "\\bsynchronized\\b", "\\bassert\\b", "->", "::", "\\bimport\\b",
         "\\bpackage\\b", "\\bException\\b", "\\bstatic\\s*\\{", "\\bprotected\\b", "Exact\\b", "\\bnative\\b"
     };
+    private static final Set<String> LIBRARY = Set.of("Integer.bitCount", "Math.max");
+    private static final int LONGEST_METHOD = 60;
+    private static final int MOST_FIELDS = 20;
     private static int failures = 0;
 
     public static void main(String[] args) throws IOException {
@@ -83,6 +86,8 @@ public final class FaceTest {
         check("few classes", TextAsker.class.getDeclaredClasses().length <= 12);
         for (Class<?> inside : TextAsker.class.getDeclaredClasses()) {
             check("not static: " + inside, Modifier.isStatic(inside.getModifiers()));
+            check("visible: " + inside, (inside.getModifiers() & (Modifier.PUBLIC | Modifier.PROTECTED)) == 0);
+            checkFieldsInside(inside);
             for (Method method : inside.getDeclaredMethods()) {
                 check("bears a public name: " + method, !face.contains(method.getName()));
                 check("more than seven parameters: " + method, method.getParameterCount() <= 7);
@@ -94,12 +99,39 @@ public final class FaceTest {
         }
     }
 
+    private static void checkFieldsInside(Class<?> inside) {
+        check("many fields: " + inside, inside.getDeclaredFields().length <= MOST_FIELDS);
+        for (Field field : inside.getDeclaredFields()) {
+            check("static state: " + field, !Modifier.isStatic(field.getModifiers()));
+        }
+    }
+
     private static void checkSource() throws IOException {
         String source = Files.readString(Path.of("src/main/java/TextAsker.java"));
         String code = source.replaceAll("(?s)/\\*.*?\\*/", "").replaceAll("//[^\n]*", "");
         for (String pattern : FORBIDDEN) {
             Matcher matcher = Pattern.compile(pattern).matcher(code);
             check("forbidden in the source: " + pattern, !matcher.find());
+        }
+        Matcher use = Pattern.compile("\\b[A-Z][a-z]\\w*\\.\\w+").matcher(code);
+        while (use.find()) {
+            check("not looked up in LANGUAGE.md: " + use.group(), LIBRARY.contains(use.group()));
+        }
+        checkLengths(source.split("\n"));
+    }
+
+    /** A method begins with a line that opens a brace behind its parameters, and ends with one as far indented. */
+    private static void checkLengths(String[] lines) {
+        Pattern head = Pattern.compile("( {4}| {8})(?! )(\\w.*)\\) \\{");
+        for (int i = 0; i < lines.length; i++) {
+            Matcher method = head.matcher(lines[i]);
+            if (method.matches()) {
+                int end = i;
+                while (end < lines.length && !lines[end].equals(method.group(1) + "}")) {
+                    end++;
+                }
+                check("a long method: " + lines[i], end - i < LONGEST_METHOD);
+            }
         }
     }
 }
