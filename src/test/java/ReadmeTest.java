@@ -1,10 +1,10 @@
 import java.io.IOException;
+import java.lang.reflect.Method;
+import java.lang.reflect.Modifier;
 import java.net.URL;
 import java.net.URLClassLoader;
 import java.nio.file.Files;
 import java.nio.file.Path;
-import java.lang.reflect.Method;
-import java.lang.reflect.Modifier;
 import java.util.ArrayList;
 import java.util.Comparator;
 import java.util.List;
@@ -15,9 +15,10 @@ import java.util.regex.Pattern;
 import java.util.stream.Stream;
 import javax.tools.ToolProvider;
 
-/** README.md says true: its code is compiled as it stands there, and each call must answer what its comment begins with. */
+/** README.md's code is compiled as it stands there, and each call must answer what its comment begins with. */
 public final class ReadmeTest {
-    private static final Pattern CALL = Pattern.compile("(\\s*)(asker\\.(\\w+)\\(.*\\));\\s+// (true|false|-?\\d+)(:.*)?");
+    private static final Pattern CALL =
+            Pattern.compile("(\\s*)(asker\\.(\\w+)\\(.*\\));\\s+// (true|false|-?\\d+)(:.*)?");
     private static final Pattern LISTED = Pattern.compile("- `(\\w+)`: .*");
     private static int failures = 0;
 
